@@ -326,10 +326,7 @@ public final class HalfDrop {
     }
 
     public int mended(int room, int strip) {
-        if (!lay(room) || !isFrom(0, strip, layout.strips - 1)) {
-            return NONE;
-        }
-        return now.leastEndsFor(layout, strip, now.papers[room]);
+        return lay(room) ? now.leastEndsFor(layout, strip, now.papers[room]) : NONE;
     }
 
     public int border(int room, int higher, int length) {
@@ -1535,6 +1532,7 @@ public final class HalfDrop {
         private int number;
         final int[] needs;
         private final boolean[] hidden;
+        /** What each BATCH gives to the WALLS that have chosen; nothing, when no choice stands open. */
         private final int[] given;
         private final int[] chosen;
         final int[] picked;
@@ -1565,10 +1563,7 @@ public final class HalfDrop {
             paper = ofPaper;
             number = Math.min(Walls.MOST, room.walls.number);
             for (int wall = 0; wall < number; wall++) {
-                hidden[wall] = number == 1 || room.doorAtCorner(wall);
-            }
-            for (int batch = 0; batch < MOST_BATCHES; batch++) {
-                given[batch] = 0;
+                hidden[wall] = room.doorAtCorner(wall);
             }
         }
 
@@ -1613,6 +1608,7 @@ public final class HalfDrop {
             if (!isFrom(0, left, number - 1) || !isFrom(0, right, number - 1)) {
                 return 0;
             }
+            // With one WALL both are the same, so that its corner is none.
             return hidden[left] || chosen[left] == chosen[right] ? 0 : 1;
         }
     }

@@ -165,6 +165,26 @@ public final class DayTest {
         Check.due("mended", 1, z.mended(0, 0));
         z.on(0);
         Check.due("mended by the other", -1, z.mended(0, 0));
+        // Phase and paper of an end come back too: 200 long, phase 0.
+        HalfDrop w = room(50);
+        w.trim(0);
+        w.paper(40, 60, 0, 1000, 1);
+        w.image(2);
+        w.keep(0, 200, 0);
+        w.image(0);
+        w.on(2);
+        w.keep(0, 200, 1);
+        w.image(1);
+        Check.due("of another phase", -1, w.mended(0, 0));
+        w.on(0);
+        Check.due("of its phase", 1, w.mended(0, 0));
+        w.on(2);
+        w.keep(1, 200, 0);
+        Check.due("of another paper", -1, w.mended(0, 0));
+        w.on(1);
+        Check.due("of another phase again", -1, w.mended(0, 0));
+        w.on(0);
+        Check.due("of its phase and paper", 1, w.mended(0, 0));
     }
 
     private static void state(HalfDrop x, int paper, int start, int base, int hung, int ends) {

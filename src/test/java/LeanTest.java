@@ -52,6 +52,12 @@ public final class LeanTest {
         Check.due("shown", 200, y.shown(0, 2));
         Check.due("shown with more cuts", 200, y.shown(0, 15));
         Check.due("cuts", 2, y.cuts(0));
+        // Uncut 30, 20, 30, 20; cut at the first corner 60, 10, 0, 10, at the second 30, 40, 10, 0: the least bits.
+        HalfDrop z = Check.withRoom("wall 50 100 100;".repeat(5) + "lean 0 30;lean 1 - 10;lean 2 10;lean 3 - 10;");
+        Check.due("shown without", 100, z.shown(0, 0));
+        Check.due("shown, cut at the first", 80, z.shown(0, 1));
+        Check.due("shown, cut at the second", 80, z.shown(0, 2));
+        Check.due("cuts", 1, z.cuts(0));
     }
 
     private static void oneWall() {

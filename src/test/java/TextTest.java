@@ -11,6 +11,8 @@ public final class TextTest {
         faultsOfWalls();
         faultsOfOpenings();
         faultsOfLeansAndStands();
+        shortLines();
+        readAnew();
         tooMany();
         rooms();
         Check.finish();
@@ -124,6 +126,14 @@ public final class TextTest {
         fault("wall 100 200 20!", 13);
         fault("wall 100 200 200!", 16);
         fault("floor", 0);
+        fault("ball 100 200 200;", 0);
+        fault(WALL + "foor 0 0 1 50;", 17);
+        fault(WALL + "bindow 0 0 1 1 2;", 17);
+        fault(WALL + "mean 0 1;", 17);
+        fault(WALL + "atand 0 0 0;", 17);
+        fault(";".repeat(400), 0);
+        fault(WALL + ";".repeat(383), 17);
+        fault(" ".repeat(383) + WALL, -1);
         fault(";", 0);
         fault("7", 0);
     }
@@ -157,6 +167,10 @@ public final class TextTest {
         fault(WALL + "door 0 0 50;", 28);
         fault(WALL + "door 0 0 50 100 1;", 33);
         fault(WALL + "window 1 0 1 1 2;", 24);
+        fault(WALL + "window 0 101 102 1 2;", 26);
+        fault(WALL + "window 0 50 50 1 2;", 29);
+        fault(WALL + "window 0 50 40 1 2;", 29);
+        fault(WALL + "window 0 50 101 1 2;", 29);
         fault(WALL + "window 0 0 50 0 100;", 31);
         fault(WALL + "window 0 0 50 301 302;", 31);
         fault(WALL + "window 0 0 50 300 302;", 35);
@@ -182,6 +196,45 @@ public final class TextTest {
         fault(WALL + "stand 0 101 0;", 25);
         fault(WALL + "stand 0 100 401;", 29);
         fault(WALL + "stand 0 - 1 0;", 25);
+    }
+
+    /** A line that is over, or followed by another one's word, before all its numbers came. */
+    private static void shortLines() {
+        String[] lines = {"wall 100 200 200", "door 0 0 50 100", "window 0 0 50 100 150", "lean 0 5", "lean 0 - 5", "stand 0 0 0"};
+        for (String line : lines) {
+            String told = line.startsWith("wall") ? "" : WALL;
+            for (int to = line.indexOf(' '); to > 0; to = line.indexOf(' ', to + 1)) {
+                String first = told + line.substring(0, to);
+                fault(first + ";", first.length());
+                fault(first + " wall 100 200 200;", first.length() + 1);
+                fault(first + " stand 0 0 0;", first.length() + 1);
+                fault(first, first.length());
+            }
+            fault(told + line + " wall 100 200 200;", (told + line).length() + 1);
+        }
+    }
+
+    /** What was read once, and then cut off, is gone. */
+    private static void readAnew() {
+        HalfDrop x = new HalfDrop();
+        Check.feed(x, "wall 100 200 2009");
+        Check.due("fault of a number too great", 13, x.fault());
+        x.end(16);
+        Check.due("fault without its last digit", 16, x.fault());
+        x.end(0);
+        Check.feed(x, WALL + WALL + "lean 0 50;door 0 0 50 100;stand 0 0 0;" + WALL);
+        Check.due("fault of the longer text", -1, x.fault());
+        x.end(34);
+        Check.due("room of the shorter one", 0, x.room());
+        int[] due = {2, 0, 200, 0};
+        for (int what = 0; what < 4; what++) {
+            Check.due("of(0, " + what + ")", due[what], x.of(0, what));
+        }
+        Check.due("it doesn't lean", 0, x.run(0, 0, 1));
+        Check.feed(x, WALL + WALL + "lean 0 50;");
+        Check.due("the next room", 1, x.room());
+        Check.due("the first one doesn't lean", 0, x.run(0, 0, 1));
+        Check.due("the next one does", 100, x.run(1, 0, 1));
     }
 
     private static void tooMany() {
