@@ -131,6 +131,14 @@ public final class BatchTest {
         z.batch(0, 4);
         z.batch(0, 4);
         row(z, 0, 0, 1, 1, 0);
+        HalfDrop w = fourWalls("door 1 0 10 100;door 3 0 10 100;");
+        w.batch(0, 4);
+        w.batch(0, 4);
+        row(w, 0, 0, 1, 1, 0);
+        HalfDrop last = fourWalls("door 3 90 100 100;door 1 90 100 100;");
+        last.batch(0, 4);
+        last.batch(0, 4);
+        row(last, 0, 0, 0, 1, 1);
     }
 
     private static void oneWall() {

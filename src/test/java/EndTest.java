@@ -28,6 +28,9 @@ public final class EndTest {
         }
         Check.due("an 11th", -1, x.keep(0, 1, 0));
         Check.due("ends", 10, x.count(4));
+        Check.addRoom(x, "wall 50 400 400;");
+        x.done(0, 0, 0, 14);
+        Check.due("mended with all ends", 4, x.mended(0, 0));
     }
 
     private static void onePiece() {

@@ -231,6 +231,10 @@ public final class TextTest {
             Check.due("of(0, " + what + ")", due[what], x.of(0, what));
         }
         Check.due("it doesn't lean", 0, x.run(0, 0, 1));
+        x.paper(50, 60, 0, 1000, 1);
+        x.done(0, 0, 0, 0);
+        Check.due("it has no door", 200, x.piece(0, 0, 2));
+        Check.due("it has no stand", 0, x.faults(0, 3));
         Check.feed(x, WALL + WALL + "lean 0 50;");
         Check.due("the next room", 1, x.room());
         Check.due("the first one doesn't lean", 0, x.run(0, 0, 1));

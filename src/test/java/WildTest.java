@@ -10,6 +10,7 @@ public final class WildTest {
         "wall 600 400 400;".repeat(8) + "window 0 0 600 1 2;window 1 0 600 1 2;window 2 0 600 1 2;window 3 0 600 1 2;"
             + "window 4 0 600 1 2;window 5 0 600 1 2;window 6 0 600 1 2;window 7 0 600 1 2;stand 0 0 0;stand 7 600 400;stand 3 9 9;",
         "wall 50 100 100;",
+        "wall 600 200 300;" + "door 0 1 2 50;".repeat(8),
         "wall 50 100 400;wall 50 400 100;lean 0 50;lean 1 - 50;door 0 0 50 99;stand 0 50 0;",
         "wall 300 250 250;wall 300 260 240;wall 299 250 250;door 0 0 300 200;window 1 0 300 100 200;stand 2 100 100;"};
     private static final int[][] PAPERS = {{20, 10, 0, 300, 1}, {120, 120, 1, 2000, 119120}, {20, 120, 2, 2000, 1}, {20, 119, 1, 450, 60060}};
@@ -116,5 +117,8 @@ public final class WildTest {
         Check.due("a roll behind the last", -1, x.left(5, 480, 0));
         Check.due("the last roll", 90, x.left(5, 479, 0));
         Check.due("one wall's own", 60, x.own(5, 7));
+        // 209 and 210 long together: 6 minutes to paste, 13 to hang
+        Check.due("the longest day", 6 + 10 + 240 * 13, x.day(5, 1, 1000, 0, 0));
+        Check.due("its spoilt ones", 239, x.day(5, 1, 1000, 0, 1));
     }
 }
