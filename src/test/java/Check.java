@@ -2,15 +2,21 @@
 final class Check {
     private static int calls = 0;
     private static int wrong = 0;
+    private static String words = "";
 
     private Check() {
+    }
+
+    /** The document's own words that the checks from here on are about; SentenceTest looks whether they stand in it. */
+    static void sentence(String quoted) {
+        words = quoted;
     }
 
     static void due(String call, long want, long got) {
         calls++;
         if (got != want) {
             wrong++;
-            System.out.println(call + " answered " + got + ", due is " + want);
+            System.out.println(call + " answered " + got + ", due is " + want + (words.isEmpty() ? "" : ", by \"" + words + "\""));
         }
     }
 
