@@ -246,6 +246,10 @@ public final class EdgeBatchTest {
         for (String opening : apart) {
             shared(batches(two + opening, 2, 2), 2, 0, 1);
         }
+        // As many doors as there can be, the last of them at the corner or none
+        String seven = two + "door 0 1 2 50;".repeat(7);
+        shared(batches(seven + "door 0 1 2 50;", 2, 2), 2, 0, 1);
+        shared(batches(seven + "door 0 99 100 50;", 2, 2), 1, 0, 1);
         // Of three walls that one is apart which has the door at one of its corners.
         shared(batches("wall 100 300 300;".repeat(3) + "door 1 99 100 50;", 4, 2), 1, 0, 0, 1);
         shared(batches("wall 100 300 300;".repeat(3) + "door 0 99 100 50;", 4, 2), 1, 0, 1, 0);

@@ -10,6 +10,7 @@ public final class EdgeDayTest {
         oneBehindTheOther();
         hangersFreeFirst();
         spoilt();
+        longestDay();
         takeNobodysTime();
         lazy();
         lazyWithTwo();
@@ -121,6 +122,19 @@ public final class EdgeDayTest {
         day(fourteen, 1, 1060, 0, 14 + 14 * 9, 1);
         // What never waits isn't spoilt by a bound of 0.
         day(done("wall 50 200 200;", 5), 1, 1000, 0, 23, 0);
+    }
+
+    private static void longestDay() {
+        Check.sentence("A DAY: STRIPS of a DONE ROOM from that which is next on are pasted one behind the other from minute 0:");
+        HalfDrop x = Check.withRoom("wall 600 400 400;".repeat(8));
+        x.trim(0);
+        x.paper(20, 60, 2, 1000, 1);
+        x.done(0, 0, 0, 0);
+        // 240 strips, 6 minutes to paste and 13 to hang
+        day(x, 1, 100, 0, 6 + 1 + 240 * 13, 239);
+        day(x, 1, 100, 1, 6 + 1 + 240 * 13, 0);
+        x.hang(0, 239);
+        day(x, 1, 100, 0, 6 + 1 + 13, 0);
     }
 
     private static void takeNobodysTime() {
@@ -352,6 +366,22 @@ public final class EdgeDayTest {
         Check.due("full again", 10, x.count(4));
         Check.due("an 11th", -1, x.keep(0, 100, 0));
         Check.due("mended by the 10th", 512, x.mended(0, 0));
+        // Of each one its paper, length and phase: 100 long from 0 on
+        int[][] unlike = {{0, 100, 0}, {1, 100, 0}, {0, 99, 0}, {0, 100, 1}};
+        for (int other = 1; other < unlike.length; other++) {
+            HalfDrop y = done("wall 50 100 100;", 0);
+            y.image(2);
+            y.keep(unlike[0][0], unlike[0][1], unlike[0][2]);
+            y.image(0);
+            y.on(2);
+            y.keep(unlike[other][0], unlike[other][1], unlike[other][2]);
+            y.image(1);
+            Check.due("not mended by " + other, -1, y.mended(0, 0));
+            y.on(0);
+            Check.due("mended by the first", 1, y.mended(0, 0));
+            y.on(1);
+            Check.due("not mended by " + other + " again", -1, y.mended(0, 0));
+        }
     }
 
     private static void roomsSince() {

@@ -215,6 +215,14 @@ public final class EdgeEndTest {
         for (int[] w : wrong) {
             Check.due("mended(" + w[0] + ", " + w[1] + ")", -1, x.mended(w[0], w[1]));
         }
+        // One strip with two pieces, asked behind a room with two strips
+        Check.addRoom(x, "wall 50 100 100;window 0 0 50 30 60;");
+        x.keep(0, 2000, 0);
+        x.done(1, 0, 0, 0);
+        Check.due("the two strips", 2, x.of(0, 8));
+        Check.due("the one strip", 3, x.mended(1, 0));
+        Check.due("the two strips again", 2, x.of(0, 8));
+        Check.due("a strip behind the one", -1, x.mended(1, 1));
     }
 
     private static void border(HalfDrop x, int higher, int length, int want) {
@@ -232,6 +240,11 @@ public final class EdgeEndTest {
         border(x, 399, 65, 5);
         border(x, 399, 50, 6);
         border(x, 400, 50, 6);
+        // From 130 to 180: 50 of 200
+        HalfDrop z = Check.withRoom("wall 200 400 400;door 0 130 180 200;");
+        border(z, 199, 150, 1);
+        border(z, 199, 149, 2);
+        border(z, 200, 150, 2);
         HalfDrop y = Check.withRoom("wall 100 100 100;door 0 0 50 50;");
         border(y, 49, 50, 1);
         border(y, 50, 50, 2);

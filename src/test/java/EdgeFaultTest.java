@@ -19,10 +19,12 @@ public final class EdgeFaultTest {
         figuresOver();
         whollyBetween();
         openingsAtPlaces();
+        fullAndEmptyOpenings();
         openingsAtHeights();
         freeStands();
         otherFaults();
         bestStarts();
+        bestOfNarrow();
         bestBases();
         likeOnes();
         otherBests();
@@ -296,6 +298,27 @@ public final class EdgeFaultTest {
         whole(corner + "door 1 1 50 200;", 0, FIGURE, 80, BASE, true);
     }
 
+    private static void fullAndEmptyOpenings() {
+        Check.sentence("and no OPENING has the place within (or at an end)");
+        String seven = "door 0 1 2 50;".repeat(7);
+        opened(seven + "door 0 1 2 50;", true);
+        opened(seven + "door 0 20 21 81;", false);
+        opened(seven + "window 0 20 21 99 101;", false);
+        // A door that was read and then cut off is none of the room's.
+        HalfDrop x = new HalfDrop();
+        Check.feed(x, "wall 210 250 250;stand 0 20 100;door 0 0 200 200;");
+        Check.due("fault with the door", -1, x.fault());
+        x.end(32);
+        x.room();
+        x.paper(50, 60, 0, 1000, ALL_OVER);
+        x.paper(50, 60, 2, 1000, ALL_OVER);
+        x.done(0, 0, 0, 0);
+        Check.due("the stand", 0, x.faults(0, 3));
+        Check.due("the seam", 250, x.faults(0, 1));
+        x.done(0, 1, 0, 0);
+        Check.due("the stand, if free", 0, x.faults(0, 3));
+    }
+
     private static void openingsAtHeights() {
         Check.sentence("and a height in common with it (more than an end).");
         opened("door 0 10 30 79;", true);
@@ -392,6 +415,18 @@ public final class EdgeFaultTest {
         HalfDrop z = Check.withRoom("wall 50 100 100;");
         z.paper(120, 10, 1, 300, 1);
         best(z, 50, 0, 0, 100);
+    }
+
+    private static void bestOfNarrow() {
+        Check.sentence("with the least FAULTS in all,");
+        HalfDrop x = Check.withRoom("wall 109 200 200;");
+        x.paper(50, 60, 2, 1000, 1);
+        best(x, 1, 0, 0, 50);
+        HalfDrop y = Check.withRoom("wall 109 200 200;door 0 20 40 150;stand 0 25 180;");
+        y.paper(50, 60, 0, 1000, 1);
+        // From 20 on the seam shows 50; the stand is 5 from it, 20 deep: base 40
+        best(y, 1, 20, 40, 100);
+        best(y, 20, 20, 40, 100);
     }
 
     private static void bestBases() {

@@ -102,6 +102,9 @@ public final class EdgeLeanTest {
         Check.due("the last that can be cut", 0, y.cuts(0));
         HalfDrop z = Check.withRoom("wall 50 400 400;".repeat(8) + "lean 4 50;");
         Check.due("three walls behind it", 16, z.cuts(0));
+        // Two cuts are better than one: 400 for the first corner and 400 for the fifth, which would show 600.
+        HalfDrop w = Check.withRoom("wall 50 400 400;".repeat(8) + "lean 0 50;lean 4 50;");
+        Check.due("two of them", 1 + 16, w.cuts(0));
     }
 
     private static void likeCuts() {
@@ -118,6 +121,12 @@ public final class EdgeLeanTest {
         Check.due("at the first", 80, y.shown(0, 1));
         Check.due("at the second", 80, y.shown(0, 2));
         Check.due("cuts", 1, y.cuts(0));
+        // Cut at the first two 100 + 20 + 30 + 0 + 10, at the third alone 50 + 40 + 20 + 30 + 20: the fewest, though more as bits.
+        HalfDrop w = Check.withRoom("wall 50 100 100;".repeat(6) + "lean 0 50;lean 1 - 10;lean 2 - 30;lean 3 30;lean 4 - 10;");
+        Check.due("uncut", 170, w.shown(0, 0));
+        Check.due("cut at the first two", 160, w.shown(0, 3));
+        Check.due("cut at the third", 160, w.shown(0, 4));
+        Check.due("cuts", 4, w.cuts(0));
         // Uncut 50 + 0 + 0 + 50 * 4; cut at the fourth 50 + 100, and where nothing runs off a cut more shows nothing.
         HalfDrop z = Check.withRoom("wall 50 100 100;".repeat(8) + "lean 0 50;lean 1 - 50;lean 3 50;");
         Check.due("uncut", 250, z.shown(0, 0));

@@ -18,6 +18,7 @@ public final class EdgeStripTest {
         windowPieces();
         firstSuch();
         openingsAtCorners();
+        fullAndEmptyOpenings();
         pieceNumbers();
         longAndPhase();
         otherStrips();
@@ -281,6 +282,29 @@ public final class EdgeStripTest {
         bottoms(done("wall 50 200 200;wall 50 200 200;door 0 0 50 60;", 50, 50), 200, 140);
     }
 
+    /** As many openings as there can be, and none but those of its own text. */
+    private static void fullAndEmptyOpenings() {
+        Check.sentence("Its PIECES: if both its sides lie within one OPENING (or at its ends, on that WALL; the first such):");
+        String seven = "wall 200 200 200;" + "door 0 1 2 50;".repeat(7);
+        bottoms(done(seven + "door 0 1 2 50;", 50, 0), 200, 200, 200, 200);
+        bottoms(done(seven + "door 0 150 200 60;", 50, 0), 200, 200, 200, 140);
+        bottoms(done(seven + "window 0 150 200 60 70;", 50, 0), 200, 200, 200, 130, 200);
+        // A door that was read and then cut off is none of the room's.
+        HalfDrop x = new HalfDrop();
+        Check.feed(x, "wall 50 200 200;door 0 0 50 60;");
+        Check.due("fault with the door", -1, x.fault());
+        x.end(16);
+        x.room();
+        x.paper(50, 60, 0, 1000, 1);
+        x.done(0, 0, 0, 0);
+        bottoms(x, 200);
+        // Nor is one of another room.
+        Check.addRoom(x, "wall 50 200 200;door 0 0 50 60;");
+        x.done(1, 0, 0, 0);
+        Check.due("to in the other room", 140, x.piece(1, 0, 2));
+        bottoms(x, 200);
+    }
+
     private static void pieceNumbers() {
         Check.sentence("PIECES of a ROOM are numbered by STRIPS, the upper first.");
         HalfDrop x = done("wall 200 200 200;window 0 50 150 50 100;", 50, 0);
@@ -290,6 +314,15 @@ public final class EdgeStripTest {
                 Check.due("piece(0, " + piece + ", " + what + ")", due[piece][what], x.piece(0, piece, what));
             }
         }
+        StringBuilder most = new StringBuilder("wall 600 400 400;".repeat(8));
+        for (int wall = 0; wall < 8; wall++) {
+            most.append("window ").append(wall).append(" 0 600 9 99;");
+        }
+        HalfDrop y = done(most.toString(), 20, 0);
+        Check.due("the most", 480, y.of(0, 8));
+        Check.due("the last one's strip", 239, y.piece(0, 479, 0));
+        Check.due("the last one from", 391, y.piece(0, 479, 1));
+        Check.due("one behind it", -1, y.piece(0, 480, 0));
         Check.sentence("4 how many PIECES, 5 the number of its first PIECE (as if it had one).");
         int[][] strips = {{1, 0}, {2, 1}, {2, 3}, {1, 5}};
         for (int strip = 0; strip < strips.length; strip++) {

@@ -10,6 +10,7 @@ public final class EdgeTextTest {
         ending();
         tokens();
         tokensAsLongAsCanBe();
+        words();
         blanksBetween();
         lines();
         walls();
@@ -158,6 +159,25 @@ public final class EdgeTextTest {
         fault("wall 18446744073709551716 200 200;", 5);
         fault(WALL + "lean 0 4294967296;", 24);
         fault(WALL + "door 4294967296 0 1 50;", 22);
+    }
+
+    /** Each word with each of its letters changed, left out, or said twice. */
+    private static void words() {
+        Check.sentence("TOKENS: words of small letters");
+        String[] lines = {"wall 100 200 200;", "door 0 0 50 100;", "window 0 0 50 100 150;", "lean 0 5;", "stand 0 0 0;"};
+        for (String line : lines) {
+            int letters = line.indexOf(' ');
+            fault(WALL + line, -1);
+            for (int at = 0; at < letters; at++) {
+                fault(WALL + line.substring(0, at) + "x" + line.substring(at + 1), 17);
+                fault(WALL + line.substring(0, at) + line.substring(at + 1), 17);
+                fault(WALL + line.substring(0, at + 1) + line.substring(at), 17);
+            }
+        }
+        // As many tokens as there are bytes
+        fault(";".repeat(400), 0);
+        fault(WALL + "-;".repeat(191) + "-", 17);
+        fault(WALL + "a1".repeat(191) + "a", 17);
     }
 
     private static void blanksBetween() {
@@ -355,7 +375,19 @@ public final class EdgeTextTest {
         Check.due("without the last sign too", 16, x.fault());
         Check.feed(x, ";");
         Check.due("with it again", -1, x.fault());
+        // What was read ahead of it, and cut off, is gone.
+        x.end(0);
+        Check.feed(x, "wall 600 300 300;wall 600 300 300;lean 0 50;door 0 0 50 99;stand 0 9 9;");
+        Check.due("of a longer text", -1, x.fault());
+        x.end(0);
+        Check.feed(x, WALL + WALL);
+        Check.due("of the shorter one", -1, x.fault());
         x.room();
+        int[] due = {2, 0, 200, 0};
+        for (int what = 0; what < due.length; what++) {
+            Check.due("of(0, " + what + ") of the shorter one", due[what], x.of(0, what));
+        }
+        Check.due("its corner", 0, x.run(0, 0, 1));
         Check.due("behind a room", 0, x.fault());
     }
 
