@@ -868,7 +868,8 @@ public final class HalfDrop {
         int leastCuts() {
             int least = 0;
             int leastShown = shownWith(0);
-            for (int cuts = 1; canBeCutAt(cuts); cuts++) {
+            int behind = number > 0 ? 1 << number - 1 : 0;
+            for (int cuts = 1; cuts < behind; cuts++) {
                 int seen = shownWith(cuts);
                 boolean fewer = Integer.bitCount(cuts) < Integer.bitCount(least);
                 if (seen < leastShown || seen == leastShown && fewer) {
