@@ -1383,6 +1383,7 @@ public final class HalfDrop {
         private static final int LEAST_FROM_SIDE = 5;
         /** Above all FAULTS that can be. */
         private static final int ENDLESS = 1000000;
+        private static final int PAIRS = 1 << 2 * Room.MOST_STANDS;
 
         private Room room;
         private Paper paper;
@@ -1390,12 +1391,15 @@ public final class HalfDrop {
         private boolean seamIsBad;
         /** The stands (bits) that would have a whole figure, by the OFFSET of their STRIP. */
         private final int[] wholeWith;
+        /** The best BASE for stands in even and in odd STRIPS (a pair of bits), by one search; NONE until it's asked for. */
+        private final int[] baseFor;
         int bestStart;
         int bestBase;
         int bestFaults;
 
         Judge() {
             wholeWith = new int[MOST_REPEAT];
+            baseFor = new int[PAIRS];
         }
 
         void look(Room told, Paper chosen) {
@@ -1446,29 +1450,50 @@ public final class HalfDrop {
             if (step <= 0) {
                 return;
             }
+            for (int pair = 0; pair < PAIRS; pair++) {
+                baseFor[pair] = NONE;
+            }
             for (int start = 0; start < round; start += step) {
-                searchBases(start, step);
+                judgeStart(start, step);
             }
         }
 
-        /** A START is left as soon as none of its BASES can be better than the best. */
-        private void searchBases(int start, int step) {
+        /** The BASE doesn't change seam and width, so it's the one with the most WHOLE stands. */
+        private void judgeStart(int start, int step) {
             int ahead = seamAt(start) + narrowness();
             if (ahead >= bestFaults) {
                 return;
             }
             int inEven = standsWithin(start, 0);
             int inOdd = standsWithin(start, 1);
-            int least = ahead + BROKEN_STAND * (room.stands - Integer.bitCount(inEven | inOdd));
-            for (int base = 0; base < paper.repeat && bestFaults > least; base += step) {
-                int whole = wholeStands(inEven, inOdd, base);
-                int together = ahead + BROKEN_STAND * (room.stands - Integer.bitCount(whole));
-                if (together < bestFaults) {
-                    bestStart = start;
-                    bestBase = base;
-                    bestFaults = together;
+            int pair = inEven << Room.MOST_STANDS | inOdd;
+            if (!isFrom(0, pair, PAIRS - 1)) {
+                return;
+            }
+            if (baseFor[pair] == NONE) {
+                baseFor[pair] = firstBest(inEven, inOdd, step);
+            }
+            int whole = wholeStands(inEven, inOdd, baseFor[pair]);
+            int together = ahead + BROKEN_STAND * (room.stands - Integer.bitCount(whole));
+            if (together < bestFaults) {
+                bestStart = start;
+                bestBase = baseFor[pair];
+                bestFaults = together;
+            }
+        }
+
+        /** The first BASE with the most WHOLE stands. */
+        private int firstBest(int inEven, int inOdd, int step) {
+            int found = 0;
+            int most = 0;
+            for (int base = 0; base < paper.repeat && step > 0; base += step) {
+                int whole = Integer.bitCount(wholeStands(inEven, inOdd, base));
+                if (whole > most) {
+                    found = base;
+                    most = whole;
                 }
             }
+            return found;
         }
 
         /** The stands (bits) far enough from both sides, in STRIPS of odd numbers (1) or of even ones (0). */
